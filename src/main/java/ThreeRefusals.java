@@ -640,15 +640,20 @@ public final class ThreeRefusals {
 
         /** The likings that a maid comes to, at her best, over all rows of n suitors. */
         int sumOverRows(int m, int n, int refusalsLeft) {
-            if (n <= 0) {
-                return 0;
+            int sum = 0;
+            for (int toCome = 1; toCome <= n; toCome++) {
+                // Nobody is liked less than 0, so 0 stands for a refusal that she has not left.
+                int ifRefused = refusalsLeft > n - toCome ? sum : 0;
+                sum = sumOfFirst(m, rowsOf(toCome - 1), ifRefused);
             }
-            int rows = rowsOf(n - 1);
-            // Nobody is liked less than 0, so 0 stands for a refusal that she has not left.
-            int ifRefused = refusalsLeft > 0 ? sumOverRows(m, n - 1, refusalsLeft - 1) : 0;
+            return sum;
+        }
+
+        /** As each suitor asks first, and ahead of so many rows: she takes him or refuses. */
+        private int sumOfFirst(int m, int rowsBehind, int ifRefused) {
             int sum = 0;
             for (int s = 0; s < suitors; s++) {
-                sum += Math.max(hers[m][s] * rows, ifRefused);
+                sum += Math.max(hers[m][s] * rowsBehind, ifRefused);
             }
             return sum;
         }
@@ -764,27 +769,27 @@ public final class ThreeRefusals {
         int countFirm(Valley land) {
             days.begin();
             found = 0;
-            matchFrom(land, 0);
+            matchFrom(this, land, 0);
             return found;
         }
 
-        /** Goes through what the suitors from number s on may wed, in the order of rows. */
-        private void matchFrom(Valley land, int s) {
-            if (days.isBroken(land, s)) {
+        /** Goes through whom the suitors from number s on may wed, in the order of rows. */
+        private static void matchFrom(Matches all, Valley land, int s) {
+            if (all.days.isBroken(land, s)) {
                 return;
             }
             if (s >= land.suitors) {
-                keep();
+                all.keep();
                 return;
             }
             for (int m = 0; m < land.maids; m++) {
-                if (days.husband[m] == NOBODY) {
-                    days.wed(s, m);
-                    matchFrom(land, s + 1);
-                    days.part(s, m);
+                if (all.days.husband[m] == NOBODY) {
+                    all.days.wed(s, m);
+                    matchFrom(all, land, s + 1);
+                    all.days.part(s, m);
                 }
             }
-            matchFrom(land, s + 1);
+            matchFrom(all, land, s + 1);
         }
 
         private void keep() {
@@ -796,11 +801,11 @@ public final class ThreeRefusals {
 
         int countBringing(Valley land) {
             days.begin();
-            return bringingFrom(land, 0);
+            return bringingFrom(days, land, 0);
         }
 
         /** How many rows of offers of the suitors from number s on bring a firm match. */
-        private int bringingFrom(Valley land, int s) {
+        private static int bringingFrom(Days days, Valley land, int s) {
             if (days.isBroken(land, s)) {
                 return 0;
             }
@@ -810,7 +815,7 @@ public final class ThreeRefusals {
             int rows = 0;
             for (int m = 0; m < land.maids; m++) {
                 int outcome = days.ask(land, s, m);
-                rows += bringingFrom(land, s + 1);
+                rows += bringingFrom(days, land, s + 1);
                 days.unask(s, m, outcome);
             }
             return rows;

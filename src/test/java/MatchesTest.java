@@ -43,6 +43,10 @@ public final class MatchesTest {
         for (int suitor = 0; suitor < 3; suitor++) {
             CHECK.due("the first of them", x.firm(suitor), suitor);
         }
+        Check.settle(x, "y22;m12;m11;00;00");
+        CHECK.due("she would, but he would not more", x.firm(-1), 2);
+        Check.settle(x, "y22;m11;m11;00;10");
+        CHECK.due("he would, but she would not more", x.firm(-1), 2);
         Check.settle(x, "y64;m555555;m555555;m555555;m555555;5555;5555;5555;5555;5555;5555");
         CHECK.due("four of six", x.firm(-1), 360);
         for (int suitor = 0; suitor < 6; suitor++) {
@@ -119,6 +123,11 @@ public final class MatchesTest {
             x.law(law);
             CHECK.due("who takes all asks no law", x.brought(), 1560);
         }
+        Check.settle(x, "y22;m44;m44;00;00");
+        x.law(1);
+        CHECK.due("refusals of one row are none of another", x.brought(), 0);
+        x.law(0);
+        CHECK.due("each must", x.brought(), 2);
         Check.settle(x, "y31;m444;0;0;0");
         x.law(2);
         CHECK.due("the third she must take", x.brought(), 1);

@@ -12,12 +12,16 @@ public final class SheetsTest {
         copy();
         copyRefused();
         fault();
+        faultGoes();
         CHECK.end();
     }
 
+    /** A call that names faults; behind it another one comes to a fault, ahead of the next. */
     private static void named(ThreeRefusals x, String call, long got, long want, int fault) {
         CHECK.due(call, got, want);
         CHECK.due("fault() behind " + call, x.fault(), fault);
+        x.put(0, -1, 0);
+        CHECK.due("another fault", x.fault() > 0 ? 1 : 0, 1);
     }
 
     private static void sheet() {
@@ -209,5 +213,25 @@ public final class SheetsTest {
         x.many(9);
         CHECK.due("the same fault", x.fault(), 2);
         CHECK.due("the same fault again", x.fault(), 2);
+    }
+
+    /** Each call that names faults, and comes to none, makes fault() 0. */
+    private static void faultGoes() {
+        ThreeRefusals x = Check.valley(Check.THREE);
+        for (int call = 0; call < 7; call++) {
+            CHECK.due("a sheet of suitors", x.sheet(1, 2, 3), 1);
+            CHECK.due("as() with a fault", x.as(1, 1), Check.CAST);
+            CHECK.due("its fault", x.fault(), 2);
+            switch (call) {
+                case 0: CHECK.due("sheet", x.sheet(0, 0, 1), 1); break;
+                case 1: CHECK.due("put", x.put(1, 0, 0), 1); break;
+                case 2: CHECK.due("cell", x.cell(1, 0, 2), 0); break;
+                case 3: CHECK.due("copy", x.copy(1, 0, 1, 1, 1), 1); break;
+                case 4: CHECK.due("as", x.as(1, 0), 1); break;
+                case 5: CHECK.due("asked", x.asked(1, 1, 2, 0, 1, 0), 9); break;
+                default: CHECK.due("valley", x.valley(3, 2, 0, Check.THREE.length()), 3);
+            }
+            CHECK.due("no fault behind call " + call, x.fault(), 0);
+        }
     }
 }

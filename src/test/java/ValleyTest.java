@@ -132,15 +132,17 @@ public final class ValleyTest {
         x.reading(1, 2, 3, true);
         x.tell(0);
         String was = Check.picture(x);
-        CHECK.due("valley sheet -1", x.valley(-1, 9, -1, -1), Check.UNKNOWN);
-        CHECK.due("valley sheet 4", x.valley(4, 2, 0, 22), Check.UNKNOWN);
-        CHECK.due("valley lane -1", x.valley(3, -1, -1, -1), Check.OUTSIDE);
-        CHECK.due("valley lane 3", x.valley(3, 3, 0, 22), Check.OUTSIDE);
-        CHECK.due("valley lane of nothing", x.valley(2, 3, 0, 22), Check.OUTSIDE);
-        CHECK.due("fault() behind refusals", x.fault(), 0);
-        CHECK.due("valley too short", x.valley(3, 2, 0, 21), -121);
-        CHECK.due("valley of no cells", x.valley(3, 2, 22, 0), -100);
-        CHECK.due("fault() behind no text", x.fault(), 0);
+        int[][] calls = {
+            {-1, 9, -1, -1, Check.UNKNOWN}, {4, 2, 0, 22, Check.UNKNOWN},
+            {3, -1, -1, -1, Check.OUTSIDE}, {3, 3, 0, 22, Check.OUTSIDE},
+            {2, 3, 0, 22, Check.OUTSIDE}, {3, 2, 0, 21, -121}, {3, 2, 22, 0, -100},
+        };
+        for (int[] c : calls) {
+            x.put(3, -1, 0);
+            CHECK.due("a fault ahead", x.fault(), 3);
+            CHECK.due("valley refused", x.valley(c[0], c[1], c[2], c[3]), c[4]);
+            CHECK.due("fault() behind it", x.fault(), 0);
+        }
         CHECK.due("all is as it was", Check.picture(x).equals(was) ? 1 : 0, 1);
     }
 
@@ -162,6 +164,7 @@ public final class ValleyTest {
         faultOfValley(x, x.valley(3, 2, Integer.MAX_VALUE, 1), 3);
         faultOfValley(x, x.valley(3, 2, Integer.MIN_VALUE, Integer.MAX_VALUE), 3);
         CHECK.due("all is as it was", Check.picture(x).equals(was) ? 1 : 0, 1);
+        CHECK.due("a fault ahead", x.fault(), 3);
         CHECK.due("taken", x.valley(3, 2, 0, 22), 2);
         CHECK.due("fault() behind a taken text", x.fault(), 0);
     }
