@@ -11,14 +11,31 @@ final class Check {
 
     private int wrong;
     private int asked;
+    private String sentence = "";
+
+    /** The sentence of the document that the answers from now on belong to. */
+    void says(String now) {
+        sentence = now + ": ";
+    }
 
     void due(String call, long got, long want) {
         asked++;
         if (got != want) {
-            wrong++;
-            if (wrong <= 50) {
-                System.out.println(call + " answered " + got + ", due is " + want);
-            }
+            wrong(call + " answered " + got + ", due is " + want);
+        }
+    }
+
+    void same(String what, String got, String want) {
+        asked++;
+        if (!got.equals(want)) {
+            wrong(what + ": it is " + got + ", due is " + want);
+        }
+    }
+
+    private void wrong(String how) {
+        wrong++;
+        if (wrong <= 50) {
+            System.out.println(sentence + how);
         }
     }
 
@@ -50,40 +67,67 @@ final class Check {
 
     /** Puts numbers on a sheet of ints. */
     static void write(ThreeRefusals x, int sheet, int... numbers) {
-        x.sheet(sheet, 2, numbers.length);
+        write(x, sheet, 2, numbers);
+    }
+
+    /** Puts numbers on a sheet of a lane. */
+    static void write(ThreeRefusals x, int sheet, int lane, int[] numbers) {
+        x.sheet(sheet, lane, numbers.length);
         for (int i = 0; i < numbers.length; i++) {
             x.put(sheet, i, numbers[i]);
         }
     }
 
-    /** All that an object tells without changing anything but fault(), which is told first. */
+    static int[] codes(String text) {
+        return text.chars().toArray();
+    }
+
+    /**
+     * All that an object tells without changing anything but fault(), which is told first. It takes
+     * no more calls than it must, as an object is good for 512.
+     */
     static String picture(ThreeRefusals x) {
         StringBuilder all = new StringBuilder();
         all.append(x.trace()).append(' ').append(x.pairs());
         for (int what = 0; what < 5; what++) {
             all.append(' ').append(x.many(what));
         }
-        for (int maid = 0; maid < x.many(1); maid++) {
+        int maids = x.many(1);
+        int suitors = x.many(0);
+        for (int maid = 0; maid < maids; maid++) {
             for (int what = 0; what < 4; what++) {
                 all.append(' ').append(x.ofMaid(maid, what));
             }
             all.append(' ').append(x.kinds(maid));
-            for (int suitor = 0; suitor < x.many(0); suitor++) {
+            for (int suitor = 0; suitor < suitors; suitor++) {
                 all.append(' ').append(x.likes(maid, suitor, 0)).append(x.likes(maid, suitor, 1));
                 all.append(x.learnt(maid, suitor, 0)).append(x.learnt(maid, suitor, 1));
             }
         }
-        for (int offer = 0; offer < x.many(2); offer++) {
+        int offers = x.many(2);
+        for (int offer = 0; offer < offers; offer++) {
             all.append(' ').append(x.comes(offer));
         }
         for (int sheet = 0; sheet < 4; sheet++) {
-            all.append('|');
-            for (int lane = 0; lane < 3; lane++) {
-                for (int i = 0; i < 101; i++) {
-                    all.append(x.cell(sheet, i, lane)).append(' ');
-                }
-            }
+            all.append(" | ").append(pictureOfSheet(x, sheet));
         }
         return all.toString();
+    }
+
+    private static String pictureOfSheet(ThreeRefusals x, int sheet) {
+        for (int lane = 0; lane < 3; lane++) {
+            long first = x.cell(sheet, 0, lane);
+            int fault = x.fault();
+            if (fault != 2) {
+                StringBuilder row = new StringBuilder("lane " + lane + " fault " + fault + ":");
+                long cell = first;
+                for (int i = 1; cell != LOST && i <= 101; i++) {
+                    row.append(' ').append(cell);
+                    cell = x.cell(sheet, i, lane);
+                }
+                return row.toString();
+            }
+        }
+        return "no lane";
     }
 }

@@ -1,8 +1,9 @@
 /** Long runs of calls of all kinds, each answer beside that of Naive. */
 public final class CompareTest {
     private static final Check CHECK = new Check();
-    private static final int RUNS = 1500;
-    private static final int CALLS = 512;
+    private static final int RUNS = 1800;
+    /** An object is good for 512 calls, and the last step may take some seventy. */
+    private static final int CALLS = 430;
     private static final int[] FAR = {
         Integer.MIN_VALUE, Integer.MIN_VALUE + 1, -101, -10, -2, -1, 7, 8, 9, 10, 24, 25, 99, 100, 101,
         127, 128, 255, 32768, 65536, Integer.MAX_VALUE - 1, Integer.MAX_VALUE,
@@ -265,8 +266,8 @@ public final class CompareTest {
 
     /** Worth is dear for Naive, so it is compared here, where suitors are few. */
     private static void everySmallValley() {
-        CompareTest test = new CompareTest(RUNS);
         for (int k = 0; k < 60; k++) {
+            CompareTest test = new CompareTest(RUNS + k);
             int suitors = k < 50 ? 1 + k % 3 : 4 + k % 3;
             StringBuilder text = new StringBuilder("y").append(suitors).append("1;h");
             for (int s = 0; s < suitors; s++) {

@@ -78,10 +78,10 @@ public final class SheetsTest {
     }
 
     private static void putCutsToLanes() {
-        ThreeRefusals x = new ThreeRefusals();
         int[] numbers = {0, 1, -1, 127, 128, -128, -129, 255, 256, 32767, 32768, -32768, -32769,
             65535, 65536, 70001, Integer.MAX_VALUE, Integer.MIN_VALUE};
         for (int v : numbers) {
+            ThreeRefusals x = new ThreeRefusals();
             for (int lane = 0; lane < 3; lane++) {
                 x.sheet(lane, lane, 3);
                 named(x, "put " + v, x.put(lane, 1, v), 1, 0);

@@ -75,52 +75,52 @@ public final class ValleyTest {
     }
 
     private static void firstFaults() {
-        ThreeRefusals x = Check.valley("y11;p7;4");
-        text(x, "", 0);
-        text(x, "x11;p7;4", 0);
-        text(x, "Y11;p7;4", 0);
-        text(x, "y", 1);
-        text(x, "y0", 1);
-        text(x, "y71;p7;4", 1);
-        text(x, "ym", 1);
-        text(x, "y1", 2);
-        text(x, "y10;p7;4", 2);
-        text(x, "y15;p7;4", 2);
-        text(x, "y65", 2);
-        text(x, "y11", 3);
-        text(x, "y11p7;4", 3);
-        text(x, "y11:p7;4", 3);
-        text(x, "y11;", 4);
-        text(x, "y11;;7;4", 4);
-        text(x, "y11;77;4", 4);
-        text(x, "y11;M7;4", 4);
-        text(x, "y11;p;4", 5);
-        text(x, "y11;p/;4", 5);
-        text(x, "y11;p:;4", 5);
-        text(x, "y11;p7", 6);
-        text(x, "y11;p77;4", 6);
-        text(x, "y11;p7;", 7);
-        text(x, "y11;p7;p4", 7);
-        text(x, "y11;p7;;", 7);
-        text(x, "y11;p7;44", 8);
-        text(x, "y11;p7;4;", 8);
-        text(x, "y11;p7;4xyz", 8);
-        text(x, "y21;m12;3", 9);
-        text(x, "y21;m12;3;4;5", 11);
-        text(x, "y12;m1;p2;34", 12 + 100);
-        text(x, "y12;m1;2", 7);
-        text(x, "y12;m1;p2;3", 11);
-        text(x, "y12;m1;p2;3;4", 11);
+        text("", 0);
+        text("x11;p7;4", 0);
+        text("Y11;p7;4", 0);
+        text("y", 1);
+        text("y0", 1);
+        text("y71;p7;4", 1);
+        text("ym", 1);
+        text("y1", 2);
+        text("y10;p7;4", 2);
+        text("y15;p7;4", 2);
+        text("y65", 2);
+        text("y11", 3);
+        text("y11p7;4", 3);
+        text("y11:p7;4", 3);
+        text("y11;", 4);
+        text("y11;;7;4", 4);
+        text("y11;77;4", 4);
+        text("y11;M7;4", 4);
+        text("y11;p;4", 5);
+        text("y11;p/;4", 5);
+        text("y11;p:;4", 5);
+        text("y11;p7", 6);
+        text("y11;p77;4", 6);
+        text("y11;p7;", 7);
+        text("y11;p7;p4", 7);
+        text("y11;p7;;", 7);
+        text("y11;p7;44", 8);
+        text("y11;p7;4;", 8);
+        text("y11;p7;4xyz", 8);
+        text("y21;m12;3", 9);
+        text("y21;m12;3;4;5", 11);
+        text("y12;m1;p2;34", 12 + 100);
+        text("y12;m1;2", 7);
+        text("y12;m1;p2;3", 11);
+        text("y12;m1;p2;3;4", 11);
         String longest = "y64;m012345;p678901;h234567;m890123;4567;8901;2345;6789;0123;4567";
         for (int n = 0; n < longest.length(); n++) {
-            text(x, longest.substring(0, n), n);
-            text(x, longest.substring(0, n) + "\n" + longest.substring(n + 1), n);
+            text(longest.substring(0, n), n);
+            text(longest.substring(0, n) + "\n" + longest.substring(n + 1), n);
         }
-        text(x, longest + "0".repeat(100 - longest.length()), longest.length());
+        text(longest + "0".repeat(100 - longest.length()), longest.length());
     }
 
     /** A fault of 100 or more: none; how many maids (the text tells it). */
-    private static void text(ThreeRefusals x, String text, int fault) {
+    private static void text(String text, int fault) {
+        ThreeRefusals x = Check.valley("y11;p7;4");
         int want = fault < 100 ? -100 - fault : text.charAt(2) - '0';
         CHECK.due("text " + text, Check.settle(x, text), want);
         CHECK.due("fault() behind text " + text, x.fault(), 0);
